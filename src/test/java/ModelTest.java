@@ -28,9 +28,9 @@ public final class ModelTest {
         for (int i = 0; i < CALLS; i++) {
             // The kinds of runs differ in how much is asked, changed and let pass.
             int weight = drawn.nextInt(100);
-            int asked = kind == 0 ? 60 : 20;
-            int told = kind == 1 ? 15 : 5;
-            int passed = kind == 2 ? 40 : kind == 3 ? 3 : 15;
+            int asked = kind == 0 ? 60 : 15;
+            int told = i < 40 ? 40 : kind == 1 ? 10 : 2;
+            int passed = i < 40 ? 5 : kind >= 2 ? 40 : 20;
             if (weight < asked) {
                 ask();
             } else if (weight < asked + told) {
@@ -59,6 +59,21 @@ public final class ModelTest {
         return drawn.nextBoolean() ? some(count) : count - 1 - drawn.nextInt(4);
     }
 
+    /** A person who most often does not rest. */
+    private int somePerson() {
+        int person = some(6);
+        for (int i = 0; i < 3 && person >= 0 && person < 6 && m.rests(person); i++) {
+            person = some(6);
+        }
+        return person;
+    }
+
+    /** A change, most often the one to which a ring is traced, so that faults come and go. */
+    private int someToRevert() {
+        int traced = m.trace(drawn.nextInt(4));
+        return traced != -1 && drawn.nextInt(4) != 0 ? traced : someOf(m.changes());
+    }
+
     private void compare(String what, Check.Call got, Check.Call want) {
         Check.due("run " + run + " at " + m.time() + ": " + what, Check.outcome(got), Check.outcome(want));
     }
@@ -67,8 +82,9 @@ public final class ModelTest {
         int a = some(8);
         int b = some(8);
         int version = some(m.versions());
-        int control = drawn.nextInt(6) == 0 ? -1 : some(8);
-        boolean is = drawn.nextInt(4) != 0;
+        // A fault that nobody can mend lets little happen behind it: most runs have none.
+        int control = (run % 16 == 0 || version > 1) && drawn.nextInt(6) == 0 ? -1 : some(8);
+        boolean is = kind == 3 || control % 3 != 0 || drawn.nextBoolean();
         switch (drawn.nextInt(4)) {
             case 0 -> compare("build()", () -> x.build(), () -> m.build());
             case 1 -> compare("defect(" + version + ", " + control + ", " + is + ")",
@@ -79,30 +95,31 @@ public final class ModelTest {
     }
 
     private void pass() {
-        int halves = switch (drawn.nextInt(6)) {
+        int halves = switch (kind == 3 ? 5 : drawn.nextInt(kind == 2 ? 6 : 30)) {
             case 0 -> 1 + some(28);
-            case 1 -> 2;
-            case 2 -> kind == 2 ? 14 : some(29);
+            case 1 -> 14;
+            case 2 -> some(29);
+            case 3, 4 -> 2;
             default -> 1;
         };
         compare("pass(" + halves + ")", () -> x.pass(halves), () -> m.pass(halves));
     }
 
     private void make() {
-        int person = some(6);
+        int person = somePerson();
         int ring = some(4);
         int control = some(8);
-        int level = some(5);
+        int level = drawn.nextBoolean() ? 4 : some(5);
         int version = drawn.nextInt(3) == 0 || ring <= 0 || ring > 3 ? some(m.versions()) : m.version(ring - 1);
-        int change = someOf(m.changes());
-        switch (drawn.nextInt(8)) {
+        int change = someToRevert();
+        switch (drawn.nextInt(kind == 3 ? 14 : 8)) {
             case 0, 1, 2 -> compare("turn(" + person + ", " + control + ", " + level + ")",
                     () -> x.turn(person, control, level), () -> m.turn(person, control, level));
             case 3, 4, 5 -> compare("roll(" + person + ", " + ring + ", " + version + ")",
                     () -> x.roll(person, ring, version), () -> m.roll(person, ring, version));
-            case 6 -> compare("revert(" + person + ", " + change + ")",
+            case 7 -> compare("takeOver(" + person + ")", () -> x.takeOver(person), () -> m.takeOver(person));
+            default -> compare("revert(" + person + ", " + change + ")",
                     () -> x.revert(person, change), () -> m.revert(person, change));
-            default -> compare("takeOver(" + person + ")", () -> x.takeOver(person), () -> m.takeOver(person));
         }
     }
 
