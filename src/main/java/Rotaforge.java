@@ -143,7 +143,12 @@ public final class Rotaforge {
         }
         int before = incidentLog.total();
         for (int i = 0; i < halves; i++) {
-            passHalf();
+            int firstOfHalf = incidentLog.total();
+            beginHalf();
+            for (int ring = 0; ring < RINGS; ring++) {
+                settleRing(ring);
+            }
+            callIfOpen(firstOfHalf);
         }
         return incidentLog.total() - before;
     }
@@ -419,17 +424,10 @@ public final class Rotaforge {
 
     // ---- a half passes
 
-    private void passHalf() {
+    private void beginHalf() {
         now++;
         if (now % WEEK_HALVES == 0) {
             rota.beginWeek(weekNow());
-        }
-        int firstOfHalf = incidentLog.total();
-        for (int ring = 0; ring < RINGS; ring++) {
-            settleRing(ring);
-        }
-        if (incidentLog.anyOpenBelow(RINGS)) {
-            incidentLog.noteWoken(firstOfHalf, rota.callAt(now));
         }
     }
 
@@ -445,6 +443,13 @@ public final class Rotaforge {
         incidentLog.open(ring, now, cause);
         if (cause != NONE) {
             rota.addBlot(changeLog.personOf(cause));
+        }
+    }
+
+    /** The incidents from this one on opened in this half: they keep who is called in it. */
+    private void callIfOpen(int firstOfHalf) {
+        if (incidentLog.anyOpenBelow(RINGS)) {
+            incidentLog.noteWoken(firstOfHalf, rota.callAt(now));
         }
     }
 

@@ -9,6 +9,7 @@ public final class WhatThereIsTest {
         defectIsRefused();
         needIsCounted();
         needIsFollowed();
+        needIsFollowedDownwards();
         needIsRefused();
         Check.end("WhatThereIsTest");
     }
@@ -151,6 +152,22 @@ public final class WhatThereIsTest {
         Check.due("now 7 can need 0", x.need(7, 0, true), 1);
         Check.due("6 without 7", x.isOn(6, 1), true);
         Check.due("7 where it is not set", x.isOn(7, 1), false);
+    }
+
+    private static void needIsFollowedDownwards() {
+        Rotaforge x = new Rotaforge();
+        for (int s = 1; s < 8; s++) {
+            x.turn(0, s, 4);
+            x.need(s, s - 1, true);
+        }
+        Check.due("7 without the end of its chain", x.isOn(7, 0), false);
+        Check.due("need(0, 7, true) against the chain", Check.outcome(() -> x.need(0, 7, true)),
+                "throws.IllegalStateException");
+        x.turn(0, 0, 1);
+        Check.due("7 with its whole chain", x.isOn(7, 0), true);
+        Check.due("7 where the end is not set", x.isOn(7, 1), false);
+        x.need(1, 0, false);
+        Check.due("7 when the end is needed no more", x.isOn(7, 1), true);
     }
 
     private static void needIsRefused() {
