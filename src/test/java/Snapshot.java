@@ -1,4 +1,4 @@
-/** All that can be seen of an object, as one text; the object's life ends with it. */
+/** All that can be seen of an object, as one text; the object's life ends with it (some 270 calls). */
 final class Snapshot {
     private static final int PERSONS = 6;
     private static final int RINGS = 4;
@@ -13,7 +13,9 @@ final class Snapshot {
         StringBuilder seen = new StringBuilder();
         seePersons(x, seen);
         seeRings(x, seen);
+        seeSwitches(x, seen);
         seeLogs(x, seen);
+        seeTheNextHalf(x, seen);
         seeHidden(x, seen);
         return seen.toString();
     }
@@ -35,6 +37,9 @@ final class Snapshot {
             seen.append(" ring ").append(x.version(r)).append(' ').append(x.isFaulty(r)).append(' ');
             seen.append(x.rollable(r)).append(' ').append(x.trace(r)).append(' ').append(x.openIn(r));
         }
+    }
+
+    private static void seeSwitches(Rotaforge x, StringBuilder seen) {
         for (int s = 0; s < SWITCHES; s++) {
             seen.append(" switch ").append(x.level(s));
             for (int r = 0; r < RINGS; r++) {
@@ -44,26 +49,34 @@ final class Snapshot {
     }
 
     private static void seeLogs(Rotaforge x, StringBuilder seen) {
-        seen.append(" changes ").append(x.changes());
-        for (int c = Math.max(0, x.changes() - LOOKED_AT); c < x.changes(); c++) {
+        int changes = x.changes();
+        seen.append(" changes ").append(changes);
+        for (int c = Math.max(0, changes - LOOKED_AT); c < changes; c++) {
             seen.append(' ').append(x.change(c)).append('@').append(x.madeAt(c));
         }
-        seen.append(" incidents ").append(x.incidents());
-        for (int i = Math.max(0, x.incidents() - LOOKED_AT); i < x.incidents(); i++) {
+        int incidents = x.incidents();
+        seen.append(" incidents ").append(incidents);
+        for (int i = Math.max(0, incidents - LOOKED_AT); i < incidents; i++) {
             seen.append(' ').append(x.openedAt(i)).append(' ').append(x.closedAt(i)).append(' ');
             seen.append(x.tracedTo(i)).append(' ').append(x.firstCalled(i));
         }
     }
 
-    /** What shows only by more calls: the needs, the defects, and the half after this one. */
+    private static void seeTheNextHalf(Rotaforge x, StringBuilder seen) {
+        seen.append(" passed ").append(Check.outcome(() -> x.pass(1))).append(' ');
+        seePersons(x, seen);
+        seeRings(x, seen);
+    }
+
+    /** What shows only by more calls: the needs of each switch by each other, the defects, a version. */
     private static void seeHidden(Rotaforge x, StringBuilder seen) {
         for (int s = 0; s < SWITCHES; s++) {
-            int control = s;
-            seen.append(" needs ").append(x.need(control, (control + 1) % SWITCHES, false));
+            seen.append(" needs ");
+            for (int other = 1; other < SWITCHES; other++) {
+                seen.append(x.need(s, (s + other) % SWITCHES, false));
+            }
         }
         seen.append(" defects ").append(Check.outcome(() -> x.defect(0, -1, true)));
         seen.append(" built ").append(Check.outcome(() -> x.build()));
-        seen.append(" passed ").append(Check.outcome(() -> x.pass(1)));
-        seen.append(" on call ").append(x.onCall()).append(" missed ").append(x.missed());
     }
 }
