@@ -209,6 +209,14 @@ public final class BoundsOfChangesTest {
             Check.allows("anew since two halves ago, ring " + ring, awayAndBack.then(y -> y.pass(2)),
                     y -> y.roll(0, next, 1));
         }
+        for (int away = 1; away <= 3; away++) {
+            int halves = away;
+            Check.Scenario back = Scenes.justAhead(1).then(y -> y.pass(9)).then(y -> y.roll(0, 0, 2))
+                    .then(y -> y.pass(halves)).then(y -> y.roll(0, 0, 1));
+            Check.throwsState("back behind " + away + " halves", back, y -> y.roll(0, 1, 1));
+            Check.throwsState("back since one half ago", back.then(y -> y.pass(1)), y -> y.roll(0, 1, 1));
+            Check.allows("back since two halves ago", back.then(y -> y.pass(2)), y -> y.roll(0, 1, 1));
+        }
         Check.Scenario end = Scenes.at(558).then(Scenes.justAhead(1));
         Check.throwsState("since 558 in the half 559", end.then(y -> y.pass(1)), y -> y.roll(0, 1, 1));
         Check.allows("since 558 in the half 560", end.then(y -> y.pass(2)), y -> y.roll(0, 1, 1));

@@ -12,6 +12,7 @@ public final class TermsBoundsTest {
     }
 
     private static void ofTime() {
+        Check.sentence("The constants: NONE = -1", () -> Check.due("NONE", Rotaforge.NONE, -1));
         Check.sentence("An object is used for at most 512 calls", TermsBoundsTest::lastOf512Calls);
         Check.sentence("Time is told in halves of days, from 0 to 560", TermsBoundsTest::timeIsFrom0To560);
         Check.sentence("even ones are days, odd ones are nights", TermsBoundsTest::evenHalvesAreDays);
@@ -148,42 +149,51 @@ public final class TermsBoundsTest {
         }
     }
 
-    /** Each switch needs the one that is so much further on, round all eight. */
-    private static Check.Scenario chain(int step) {
+    /** From this switch on each needs the one that is so much further on, round all eight. */
+    private static Check.Scenario chain(int start, int step) {
         return x -> {
             for (int i = 0; i < 7; i++) {
-                x.need(i * step % 8, (i + 1) * step % 8, true);
+                x.need(link(start, step, i), link(start, step, i + 1), true);
             }
         };
     }
 
+    private static int link(int start, int step, int place) {
+        return (start + place * step) % 8;
+    }
+
     private static void noSwitchNeedsItself() {
-        Check.throwsArgument("need(0, 0, true)", Scenes::nothing, y -> y.need(0, 0, true));
-        Check.throwsArgument("need(7, 7, true)", Scenes::nothing, y -> y.need(7, 7, true));
-        for (int step : new int[] {1, 3, 5, 7}) {
-            int last = 7 * step % 8;
-            for (int i = 0; i < 7; i++) {
-                int other = i * step % 8;
-                Check.throwsState("a chain of " + (8 - i) + " closed", chain(step), y -> y.need(last, other, true));
+        for (int start = 0; start < 8; start++) {
+            int same = start;
+            Check.throwsArgument("need(n, n, true)", Scenes::nothing, y -> y.need(same, same, true));
+            for (int step = 1; step < 8; step += 2) {
+                int last = link(start, step, 7);
+                for (int i = 0; i < 7; i++) {
+                    int other = link(start, step, i);
+                    Check.throwsState("a chain of " + (8 - i) + " closed", chain(start, step),
+                            y -> y.need(last, other, true));
+                }
+                Rotaforge x = Check.played(chain(start, step));
+                Check.due("the longest chain, and its ends the other way", x.need(start, last, true), 2);
             }
         }
-        Rotaforge x = Check.played(chain(1));
-        Check.due("the longest chain, closed at the other end", x.need(0, 7, true), 2);
     }
 
     private static void onWithAllThatItNeeds() {
-        for (int step : new int[] {1, 7}) {
-            int last = 7 * step % 8;
-            Rotaforge x = Check.played(chain(step));
-            for (int control = 0; control < 8; control++) {
-                x.turn(0, control, control == last ? 2 : 4);
+        for (int start = 0; start < 8; start++) {
+            for (int step = 1; step < 8; step += 2) {
+                int last = link(start, step, 7);
+                Rotaforge x = Check.played(chain(start, step));
+                for (int control = 0; control < 8; control++) {
+                    x.turn(0, control, control == last ? 2 : 4);
+                }
+                Check.due("the first in the last ring where the end of its chain is set", x.isOn(start, 1), true);
+                Check.due("the first in the first ring where it is not", x.isOn(start, 2), false);
+                Check.due("the one ahead of the end there", x.isOn(link(start, step, 6), 2), false);
+                x.turn(0, start, 0);
+                Check.due("the first where it is not set itself", x.isOn(start, 0), false);
+                Check.due("the second, which does not need the first", x.isOn(link(start, step, 1), 0), true);
             }
-            Check.due("0 in the last ring where the end of its chain is set", x.isOn(0, 1), true);
-            Check.due("0 in the first ring where it is not", x.isOn(0, 2), false);
-            Check.due("the one ahead of the end", x.isOn(6 * step % 8, 2), false);
-            x.turn(0, 0, 0);
-            Check.due("0 where it is not set itself", x.isOn(0, 0), false);
-            Check.due("the next of its chain, which does not need 0", x.isOn(step, 0), true);
         }
         Rotaforge all = new Rotaforge();
         for (int control = 0; control < 8; control++) {
