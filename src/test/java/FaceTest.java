@@ -11,6 +11,8 @@ import java.util.Arrays;
 import java.util.HashSet;
 import java.util.List;
 import java.util.Set;
+import java.util.regex.Matcher;
+import java.util.regex.Pattern;
 import java.util.stream.Collectors;
 
 /** The face has the document's members and no others, and the file keeps to the language's rules. */
@@ -20,45 +22,55 @@ public final class FaceTest {
     private static final String INDEX_STATE = INDEX + ", IllegalStateException";
     private static final String ALL = INDEX + ", IllegalArgumentException, IllegalStateException";
 
+    /** As the document has it, with what the interface says ahead of some calls. */
     private static final List<String> FACE = List.of(
+            "---- what there is",
             "int build()" + STATE,
-            "int defect(int, int, boolean)" + INDEX_STATE,
-            "int need(int, int, boolean)" + ALL,
-            "int turn(int, int, int)" + ALL,
-            "int roll(int, int, int)" + INDEX_STATE,
-            "int revert(int, int)" + INDEX_STATE,
-            "int takeOver(int)" + INDEX_STATE,
-            "int pass(int) throws IllegalArgumentException, IllegalStateException",
+            "int defect(int version, int control, boolean isOn)" + INDEX_STATE,
+            "int need(int control, int other, boolean needs)" + ALL,
+            "---- changes",
+            "int turn(int person, int control, int level)" + ALL,
+            "int roll(int person, int ring, int version)" + INDEX_STATE,
+            "int revert(int person, int change)" + INDEX_STATE,
+            "---- weeks and time",
+            "int takeOver(int person)" + INDEX_STATE,
+            "int pass(int halves) throws IllegalArgumentException, IllegalStateException",
             "int time()",
-            "int holder(int)" + INDEX,
-            "int near(int)" + INDEX,
-            "int blots(int)" + INDEX,
-            "boolean rests(int)" + INDEX,
+            "int holder(int week)" + INDEX,
+            "int near(int person)" + INDEX,
+            "int blots(int person)" + INDEX,
+            "boolean rests(int person)" + INDEX,
             "int onCall()",
-            "int calls(int, boolean)" + INDEX,
+            "int calls(int person, boolean isNight)" + INDEX,
             "int missed()",
+            "---- rings and switches as they are",
             "int versions()",
-            "int version(int)" + INDEX,
-            "int level(int)" + INDEX,
-            "boolean isOn(int, int)" + INDEX,
-            "boolean isFaulty(int)" + INDEX,
-            "int rollable(int)" + INDEX,
+            "int version(int ring)" + INDEX,
+            "int level(int control)" + INDEX,
+            "boolean isOn(int control, int ring)" + INDEX,
+            "boolean isFaulty(int ring)" + INDEX,
+            "int rollable(int ring)" + INDEX,
+            "---- changes and incidents",
             "int changes()",
-            "int change(int)" + INDEX,
-            "int madeAt(int)" + INDEX,
-            "boolean heals(int, int)" + INDEX,
-            "int trace(int)" + INDEX,
-            "int traceByTrying(int)" + INDEX,
+            "int change(int change)" + INDEX,
+            "int madeAt(int change)" + INDEX,
+            "boolean heals(int change, int ring)" + INDEX,
+            "int trace(int ring)" + INDEX,
+            "int traceByTrying(int ring)" + INDEX,
             "int incidents()",
-            "int openIn(int)" + INDEX,
-            "int openedAt(int)" + INDEX,
-            "int closedAt(int)" + INDEX,
-            "int tracedTo(int)" + INDEX,
-            "int firstCalled(int)" + INDEX);
+            "int openIn(int ring)" + INDEX,
+            "int openedAt(int incident)" + INDEX,
+            "int closedAt(int incident)" + INDEX,
+            "int tracedTo(int incident)" + INDEX,
+            "int firstCalled(int incident)" + INDEX);
+
+    private static final Pattern TOLD =
+            Pattern.compile("// (---- [a-z ]+)|    public ((?:int|boolean) [^{;=]*) \\{");
 
     public static void main(String[] args) throws IOException {
         classAndConstructor();
         methods();
+        faceInItsOrder();
         fields();
         source();
         Check.end("FaceTest");
@@ -92,7 +104,7 @@ public final class FaceTest {
                 others.add(signature(each));
             }
         }
-        Check.due("the public methods", found, new HashSet<>(FACE));
+        Check.due("the public methods", found, typesOfTheFace());
         Check.due("methods that are neither public nor private", others, List.of());
         for (Method each : Rotaforge.class.getDeclaredMethods()) {
             boolean isSameName = Modifier.isPrivate(each.getModifiers()) && faceNames.contains(each.getName());
@@ -100,7 +112,25 @@ public final class FaceTest {
         }
     }
 
+    private static Set<String> typesOfTheFace() {
+        return FACE.stream().filter(each -> !each.startsWith("----"))
+                .map(each -> each.replaceAll("(int|boolean) \\w+(?=[,)])", "$1")).collect(Collectors.toSet());
+    }
+
+    /** The calls with the names of their parameters, in their order, and what is said ahead of them. */
+    private static void faceInItsOrder() throws IOException {
+        List<String> found = new ArrayList<>();
+        Matcher told = TOLD.matcher(Files.readString(Path.of("src/main/java/Rotaforge.java")));
+        while (told.find()) {
+            found.add(told.group(1) != null ? told.group(1) : told.group(2).replaceAll("\\s+", " "));
+        }
+        for (int i = 0; i < FACE.size(); i++) {
+            Check.due("the face, line " + i, i < found.size() ? found.get(i) : "none", FACE.get(i));
+        }
+    }
+
     private static void fields() {
+        Check.due("NONE", Rotaforge.NONE, -1);
         for (Field each : Rotaforge.class.getDeclaredFields()) {
             int modifiers = each.getModifiers();
             boolean isConstant = each.getName().equals("NONE");
